@@ -40,6 +40,8 @@ public final class PromisesTest {
         draw();
         drawFaults();
         count();
+        fullTable();
+        fullRays();
         CHECK.end();
     }
 
@@ -170,6 +172,9 @@ public final class PromisesTest {
         due(5, "told(0, 0)", x.told(0, 0), 41);
         due(5, "told(0, 1)", x.told(0, 1), 3);
         due(5, "told(0, 2)", x.told(0, 2), 1010);
+        x.weight(1, 0, 3);
+        due(5, "told(0, 2): its own alone", x.told(0, 2), 1010);
+        x.weight(1, 0, 0);
         due(5, "told(0, 3)", x.told(0, 3), NONE);
         due(5, "told(1, 0)", x.told(1, 0), 2);
         due(5, "told(1, 1)", x.told(1, 1), 1);
@@ -228,6 +233,7 @@ public final class PromisesTest {
     private static void joint() {
         LooksTogether x = with(6, 1 + 8 + 32, 2 + 16, 4);
         due(9, "joint(0, 1)", x.joint(0, 1), 1);
+        due(9, "joint(0, 0)", x.joint(0, 0), 0);
         due(9, "joint(0, 8)", x.joint(0, 8), 2);
         due(9, "joint(0, 32)", x.joint(0, 32), 4);
         due(9, "joint(0, 22)", x.joint(0, 22), 0);
@@ -268,6 +274,8 @@ public final class PromisesTest {
         due(10, "two LOOKS in both", y.agrees(), 1);
         weigh(y, 1, 2, 0, 0, 2);
         due(10, "each of the two alike, both together not", y.agrees(), 0);
+        y.drop();
+        due(10, "a SET that is gone does not quarrel", y.agrees(), 1);
     }
 
     private static void quarrel() {
@@ -316,6 +324,12 @@ public final class PromisesTest {
         weigh(x, 1, 0, 1);
         due(12, "LOOK 2 is 1", x.possible(0), 1);
         due(12, "LOOK 2 is 1", x.possible(1), 6);
+        LooksTogether y = with(2, 3);
+        weigh(y, 0, 1, 1, 1, 1);
+        due(12, "all", y.possible(0), 4);
+        due(12, "all", y.possible(1), 0);
+        weigh(y, 0, 0, 0, 0, 1);
+        due(12, "the last", y.possible(1), 3);
         for (int wrong : new int[] {-1, 2, LEAST, MOST}) {
             due(12, "possible(" + wrong + ")", x.possible(wrong), BAD);
         }
@@ -345,6 +359,16 @@ public final class PromisesTest {
         weigh(x, 0, 0, 0, 0, 0);
         due(13, "none POSSIBLE: both of the second", x.lost(0), 2);
         due(13, "the first of them", x.lost(1), 8);
+        LooksTogether y = with(3, 1, 7);
+        weigh(y, 0, 1, 0);
+        weigh(y, 1, 1, 0, 0, 0, 0, 0, 0, 1);
+        due(13, "the last JOINT", y.lost(0), 1);
+        due(13, "the last JOINT", y.lost(1), 8 + 7);
+        weigh(y, 0, 0, 1);
+        due(13, "JOINT 0, met before", y.lost(1), 8);
+        weigh(y, 0, 1, 0);
+        weigh(y, 1, 0, 0, 0, 0, 0, 0, 0, 1);
+        due(13, "the first JOINT of all, met before", y.lost(1), 0);
         for (int wrong : new int[] {-1, 2, LEAST, MOST}) {
             due(13, "lost(" + wrong + ")", x.lost(wrong), BAD);
         }
@@ -418,6 +442,8 @@ public final class PromisesTest {
         due(17, "0 above 4 times 0: not", y.beyond(), 0);
         bet(y, 0, -1, -1, -1, -1);
         due(17, "0 above -1 times 0: not", y.beyond(), 0);
+        weigh(y, 0, 0, 0, 0, 5);
+        due(17, "-5 above -1 times 5: not", y.beyond(), 0);
     }
 
     private static void parted() {
@@ -588,6 +614,8 @@ public final class PromisesTest {
         due(21, "LOOK 2 is 1 by these", x.fulfil(), 0);
         x.parity(0, NONE);
         due(21, "LOOK 2 is 0, the others alike", x.fulfil(), 2);
+        x.drop();
+        due(21, "that of a SET that is gone is not asked", x.fulfil(), 4);
     }
 
     private static void proof() {
@@ -625,6 +653,21 @@ public final class PromisesTest {
         }
         // Fewest ahead of least: SETS 0, 1, 2, 4 are 23, SETS 0, 3, 5 are 41; SETS 1, 5, 6 are even.
         due(22, "fewest first", z.proof(), 41);
+        z.drop();
+        z.drop();
+        due(22, "SETS that are gone prove nothing", z.proof(), 23);
+        z.drop();
+        due(22, "SETS that are gone prove nothing", z.proof(), NONE);
+        LooksTogether w = with(6, 3, 6, 12, 24, 48, 32 + 1, 1, 2);
+        for (int c = 0; c < 6; c++) {
+            w.parity(c, c == 5 ? 1 : 0);
+        }
+        due(22, "a ring of six", w.proof(), 63);
+        LooksTogether v = with(6, 3, 6, 12, 24, 32 + 16 + 4, 32 + 2 + 1, 4 + 1, 2);
+        for (int c = 0; c < 7; c++) {
+            v.parity(c, 1);
+        }
+        due(22, "SETS 0, 1, 6", v.proof(), 1 + 2 + 64);
     }
 
     private static void ray() {
@@ -706,6 +749,13 @@ public final class PromisesTest {
         for (int wrong : new int[] {-1, 5, LEAST, MOST}) {
             due(26, "colours(" + wrong + ")", x.colours(wrong), BAD);
         }
+        LooksTogether y = new LooksTogether();
+        y.ray(0, 1, 0);
+        y.ray(1, 1, 0);
+        y.ray(1, 0, 1);
+        y.ray(1, 0, 0);
+        // 0 is SQUARE to 2 and 3, the rest to none.
+        dueColours(y, "two pairs with one RAY in both", new int[] {2, 0, 10, 0, 3});
     }
 
     private static void coloursOfMany() {
@@ -875,6 +925,10 @@ public final class PromisesTest {
         due(30, "SETS", x.count(1), 2);
         due(30, "RAYS", x.count(2), 3);
         due(30, "JOINTS", x.count(3), 3);
+        x.put(1);
+        x.weight(2, 0, 1);
+        due(30, "JOINTS, each once", x.count(3), 4);
+        x.drop();
         due(30, "CELLS: nothing", x.count(4), NONE);
         x.sheet(0, 1, 7);
         due(30, "CELLS", x.count(4), 7);
@@ -883,5 +937,46 @@ public final class PromisesTest {
         for (int wrong : new int[] {-1, 5, LEAST, MOST}) {
             due(30, "count(" + wrong + ")", x.count(wrong), BAD);
         }
+    }
+
+    /** As many SETS as there may be, of three LOOKS each: every row inside the object is full. */
+    private static void fullTable() {
+        LooksTogether x = with(4, 7, 11, 13, 14, 3, 5, 6, 9);
+        due(20, "mix", x.mix(1 << 15), 1);
+        due(10, "full", x.agrees(), 1);
+        due(11, "full", x.quarrel(), NONE);
+        due(12, "full", x.possible(1), 15);
+        due(13, "full", x.lost(0), 0);
+        x.weight(7, 2, 1);
+        due(13, "full: the last SET", x.lost(1), 8 * 7 + 2);
+        due(11, "full: the last SET", x.quarrel(), 7);
+        x.weight(7, 2, 0);
+        x.stake(7, 3, 4);
+        due(14, "full", x.bound(), 4);
+        due(15, "full", x.best(), 9);
+        due(16, "full", x.worth(), 4);
+        due(17, "full", x.beyond(), 0);
+        due(18, "full", x.parted(), 1);
+        due(19, "full", x.part(0), 15);
+        due(19, "full", x.part(NONE), 16);
+        for (int c = 0; c < 8; c++) {
+            x.parity(c, c == 6 ? 1 : 0);
+        }
+        due(21, "full", x.fulfil(), 0);
+        due(22, "full: SETS 1, 2, 6, not 4, 5, 6", x.proof(), 2 + 4 + 64);
+        due(30, "full", x.count(3), 8);
+    }
+
+    private static void fullRays() {
+        LooksTogether x = new LooksTogether();
+        int[][] rays = {{1, 0, 0}, {0, 1, 0}, {0, 0, 1}, {0, 1, 1}, {0, 1, -1}, {0, 1, 2}, {0, 2, -1}, {0, 1, 3},
+            {0, 3, -1}, {0, 1, 4}, {0, 4, -1}, {0, 5, 1}};
+        for (int[] r : rays) {
+            x.ray(r[0], r[1], r[2]);
+        }
+        due(25, "the first to all others", x.square(0), 4094);
+        due(25, "the last to the first", x.square(11), 1);
+        // The first alone; else one of each of the five pairs, and the last or not.
+        dueColours(x, "twelve, all SQUARE to the first", new int[] {11 + 5, 5, 1 + 2 * 32, 1, 6});
     }
 }
