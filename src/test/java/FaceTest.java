@@ -22,6 +22,7 @@ public final class FaceTest {
         Check check = new Check("face");
         methods(check);
         members(check);
+        classes(check);
         words(check);
         check.end();
     }
@@ -64,6 +65,45 @@ public final class FaceTest {
         check.due("FULL", LooksTogether.FULL, -3);
         check.due("NONE", LooksTogether.NONE, -4);
         check.due("SPENT", LooksTogether.SPENT, -6);
+    }
+
+    /** What reflection can tell of rules 1, 2, 5 and 11. */
+    private static void classes(Check check) {
+        Class<?>[] inside = LooksTogether.class.getDeclaredClasses();
+        check.due("at most twelve classes", inside.length < 12 ? 1 : 0, 1);
+        rulesOfClass(check, LooksTogether.class);
+        for (Class<?> one : inside) {
+            int modifiers = one.getModifiers();
+            boolean shown = Modifier.isPublic(modifiers) || Modifier.isProtected(modifiers);
+            check.due(one.getSimpleName() + " is static", Modifier.isStatic(modifiers) ? 1 : 0, 1);
+            check.due(one.getSimpleName() + " is not shown", shown ? 1 : 0, 0);
+            rulesOfClass(check, one);
+        }
+    }
+
+    private static void rulesOfClass(Check check, Class<?> one) {
+        int fields = 0;
+        for (Field f : one.getDeclaredFields()) {
+            boolean isStatic = Modifier.isStatic(f.getModifiers());
+            fields += isStatic ? 0 : 1;
+            check.due(f.getName() + " is changed", isStatic && !Modifier.isFinal(f.getModifiers()) ? 1 : 0, 0);
+            check.due(f.getName() + " is a constant of int", isStatic && f.getType() != int.class ? 1 : 0, 0);
+        }
+        check.due(one.getSimpleName() + " has at most twenty fields", fields <= 20 ? 1 : 0, 1);
+        for (Method m : one.getDeclaredMethods()) {
+            boolean ofTheFace = one == LooksTogether.class && Modifier.isPublic(m.getModifiers());
+            check.due(m.getName() + " has the name of a call", !ofTheFace && isCall(m.getName()) ? 1 : 0, 0);
+            check.due(m.getName() + " takes at most seven", m.getParameterCount() <= 7 ? 1 : 0, 1);
+        }
+    }
+
+    private static boolean isCall(String name) {
+        for (String method : METHODS) {
+            if (method.startsWith(name + " ")) {
+                return true;
+            }
+        }
+        return false;
     }
 
     private static void words(Check check) throws IOException {
